@@ -47,7 +47,8 @@ public final class Barrierbrook {
 
     // ---- the graph
 
-    public int source(int partitions, int delay, int patience) {
+    public int source(int partitions, int delay, int patience)
+        throws IllegalArgumentException, IllegalStateException {
         boolean fits = partitions >= 1 && partitions <= MOST_HANDS && delay >= 0 && delay <= 100;
         if (!fits || patience < 1 || patience > 100) {
             throw new IllegalArgumentException("partitions, delay or patience is out of range");
@@ -56,7 +57,8 @@ public final class Barrierbrook {
         return add(new Source(partitions, delay, patience));
     }
 
-    public int sift(int input, int least) {
+    public int sift(int input, int least)
+        throws IndexOutOfBoundsException, IllegalArgumentException, IllegalStateException {
         Operator from = inputAt(input);
         if (from == null) {
             throw new IndexOutOfBoundsException("no such input");
@@ -68,7 +70,8 @@ public final class Barrierbrook {
         return add(new Sift(from, least));
     }
 
-    public int change(int input, int factor, int more) {
+    public int change(int input, int factor, int more)
+        throws IndexOutOfBoundsException, IllegalArgumentException, IllegalStateException {
         Operator from = inputAt(input);
         if (from == null) {
             throw new IndexOutOfBoundsException("no such input");
@@ -80,7 +83,8 @@ public final class Barrierbrook {
         return add(new Change(from, factor, more));
     }
 
-    public int window(int input, int kind, int size, int slide, boolean counts, int lateness, int early) {
+    public int window(int input, int kind, int size, int slide, boolean counts, int lateness, int early)
+        throws IndexOutOfBoundsException, IllegalArgumentException, IllegalStateException {
         Operator from = inputAt(input);
         if (from == null) {
             throw new IndexOutOfBoundsException("no such input");
@@ -101,7 +105,8 @@ public final class Barrierbrook {
         return add(new Window(from, kind, size, slide, counts, lateness, early));
     }
 
-    public int join(int input, int other, int reach) {
+    public int join(int input, int other, int reach)
+        throws IndexOutOfBoundsException, IllegalArgumentException, IllegalStateException {
         Operator from = inputAt(input);
         Operator with = inputAt(other);
         if (from == null || with == null) {
@@ -117,7 +122,8 @@ public final class Barrierbrook {
         return add(new Join(from, with, reach));
     }
 
-    public int table(int input, int other) {
+    public int table(int input, int other)
+        throws IndexOutOfBoundsException, IllegalArgumentException, IllegalStateException {
         Operator from = inputAt(input);
         Operator with = inputAt(other);
         if (from == null || with == null) {
@@ -130,7 +136,8 @@ public final class Barrierbrook {
         return add(new Table(from, with));
     }
 
-    public int pattern(int input, int low, int high, int many, int reach) {
+    public int pattern(int input, int low, int high, int many, int reach)
+        throws IndexOutOfBoundsException, IllegalArgumentException, IllegalStateException {
         Operator from = inputAt(input);
         if (from == null) {
             throw new IndexOutOfBoundsException("no such input");
@@ -145,7 +152,7 @@ public final class Barrierbrook {
         return add(new Pattern(from, low, high, many, reach));
     }
 
-    public int sink(int input) {
+    public int sink(int input) throws IndexOutOfBoundsException, IllegalStateException {
         Operator from = inputAt(input);
         if (from == null) {
             throw new IndexOutOfBoundsException("no such input");
@@ -154,7 +161,8 @@ public final class Barrierbrook {
         return add(new Sink(from));
     }
 
-    public int rescale(int operator, int hands) {
+    public int rescale(int operator, int hands)
+        throws IndexOutOfBoundsException, IllegalArgumentException, IllegalStateException {
         Operator scaled = operatorAt(operator);
         if (scaled == null) {
             throw new IndexOutOfBoundsException("no such operator");
@@ -174,7 +182,7 @@ public final class Barrierbrook {
         return had;
     }
 
-    public boolean isSame(int one, int other) {
+    public boolean isSame(int one, int other) throws IndexOutOfBoundsException {
         Operator left = operatorAt(one);
         Operator right = operatorAt(other);
         if (left == null || right == null) {
@@ -185,7 +193,8 @@ public final class Barrierbrook {
 
     // ---- events, rules, ticks
 
-    public int event(int source, int partition, int time, int key, int value) {
+    public int event(int source, int partition, int time, int key, int value)
+        throws IndexOutOfBoundsException, IllegalArgumentException, IllegalStateException {
         Source told = sourceAt(source, partition);
         if (told == null) {
             throw new IndexOutOfBoundsException("no such source or partition");
@@ -202,7 +211,8 @@ public final class Barrierbrook {
         return told.partitions[partition].size;
     }
 
-    public int correct(int source, int partition, int event, int value) {
+    public int correct(int source, int partition, int event, int value)
+        throws IndexOutOfBoundsException, IllegalArgumentException, IllegalStateException {
         Source told = sourceAt(source, partition);
         if (told == null || event < 0 || event >= told.partitions[partition].size) {
             throw new IndexOutOfBoundsException("no such source, partition or event");
@@ -223,7 +233,7 @@ public final class Barrierbrook {
         return row.size;
     }
 
-    public void end(int source, int partition) {
+    public void end(int source, int partition) throws IndexOutOfBoundsException, IllegalStateException {
         Source told = sourceAt(source, partition);
         if (told == null) {
             throw new IndexOutOfBoundsException("no such source or partition");
@@ -235,7 +245,8 @@ public final class Barrierbrook {
         told.endTold[partition] = true;
     }
 
-    public int rule(int operator, int least) {
+    public int rule(int operator, int least)
+        throws IndexOutOfBoundsException, IllegalArgumentException, IllegalStateException {
         Operator told = operatorAt(operator);
         if (told == null) {
             throw new IndexOutOfBoundsException("no such operator");
@@ -253,7 +264,7 @@ public final class Barrierbrook {
         return sift.told;
     }
 
-    public int tick(int ticks) {
+    public int tick(int ticks) throws IllegalArgumentException {
         if (ticks < 1 || ticks > 1000) {
             throw new IllegalArgumentException("ticks is out of range");
         }
@@ -263,7 +274,7 @@ public final class Barrierbrook {
 
     // ---- steps, cuts, crashes
 
-    public int step(int operator, int hand) {
+    public int step(int operator, int hand) throws IndexOutOfBoundsException {
         Operator stepping = operatorAt(operator);
         Hand stepped = handOf(stepping, hand);
         if (stepping == null || stepped == null) {
@@ -273,7 +284,7 @@ public final class Barrierbrook {
         return letStep(stepping, stepped);
     }
 
-    public int run(int rounds) {
+    public int run(int rounds) throws IllegalArgumentException {
         if (rounds < 1 || rounds > 50) {
             throw new IllegalArgumentException("rounds is out of range");
         }
@@ -292,7 +303,7 @@ public final class Barrierbrook {
         return done;
     }
 
-    public int cut(boolean overtakes) {
+    public int cut(boolean overtakes) throws IllegalStateException {
         if (size == 0 || cutGoesOn) {
             throw new IllegalStateException("there are no operators, or a cut goes on");
         }
@@ -337,7 +348,7 @@ public final class Barrierbrook {
 
     // ---- what there is
 
-    public int hands(int operator) {
+    public int hands(int operator) throws IndexOutOfBoundsException {
         Operator asked = operatorAt(operator);
         if (asked == null) {
             throw new IndexOutOfBoundsException("no such operator");
@@ -345,7 +356,7 @@ public final class Barrierbrook {
         return asked.count;
     }
 
-    public int mark(int operator, int hand) {
+    public int mark(int operator, int hand) throws IndexOutOfBoundsException {
         Hand asked = handOf(operatorAt(operator), hand);
         if (asked == null) {
             throw new IndexOutOfBoundsException("no such operator or hand");
@@ -353,7 +364,7 @@ public final class Barrierbrook {
         return asked.mark;
     }
 
-    public boolean rests(int operator, int hand) {
+    public boolean rests(int operator, int hand) throws IndexOutOfBoundsException {
         Hand asked = handOf(operatorAt(operator), hand);
         if (asked == null) {
             throw new IndexOutOfBoundsException("no such operator or hand");
@@ -361,7 +372,7 @@ public final class Barrierbrook {
         return asked.rests;
     }
 
-    public int outRow(int operator, int hand) {
+    public int outRow(int operator, int hand) throws IndexOutOfBoundsException {
         Hand asked = handOf(operatorAt(operator), hand);
         if (asked == null) {
             throw new IndexOutOfBoundsException("no such operator or hand");
@@ -369,7 +380,7 @@ public final class Barrierbrook {
         return asked.out.size;
     }
 
-    public int waiting(int operator, int hand) {
+    public int waiting(int operator, int hand) throws IndexOutOfBoundsException {
         Hand asked = handOf(operatorAt(operator), hand);
         if (asked == null) {
             throw new IndexOutOfBoundsException("no such operator or hand");
@@ -377,7 +388,7 @@ public final class Barrierbrook {
         return asked.countWaiting();
     }
 
-    public int lost(int operator) {
+    public int lost(int operator) throws IndexOutOfBoundsException {
         Operator asked = operatorAt(operator);
         if (asked == null) {
             throw new IndexOutOfBoundsException("no such operator");
@@ -389,7 +400,7 @@ public final class Barrierbrook {
         return lost;
     }
 
-    public long net(int sink, int key, int time) {
+    public long net(int sink, int key, int time) throws IndexOutOfBoundsException, IllegalArgumentException {
         Sink asked = sinkAt(sink);
         if (asked == null) {
             throw new IndexOutOfBoundsException("no such sink");
@@ -407,7 +418,7 @@ public final class Barrierbrook {
         return sum;
     }
 
-    public int whole(int operator, int key, int time) {
+    public int whole(int operator, int key, int time) throws IndexOutOfBoundsException, IllegalArgumentException {
         Operator asked = operatorAt(operator);
         if (asked == null) {
             throw new IndexOutOfBoundsException("no such operator");
@@ -422,7 +433,7 @@ public final class Barrierbrook {
         return window.tellInTheEnd(key, time);
     }
 
-    public int given(int sink) {
+    public int given(int sink) throws IndexOutOfBoundsException {
         Sink asked = sinkAt(sink);
         if (asked == null) {
             throw new IndexOutOfBoundsException("no such sink");
@@ -430,7 +441,7 @@ public final class Barrierbrook {
         return asked.gone.size;
     }
 
-    public int givenAt(int sink, int place, int what) {
+    public int givenAt(int sink, int place, int what) throws IndexOutOfBoundsException, IllegalArgumentException {
         Sink asked = sinkAt(sink);
         if (asked == null || place < 0 || place >= asked.gone.size) {
             throw new IndexOutOfBoundsException("no such sink or place");
@@ -441,7 +452,7 @@ public final class Barrierbrook {
         return asked.gone.at(place, KEY + what);
     }
 
-    public int pending(int sink) {
+    public int pending(int sink) throws IndexOutOfBoundsException {
         Sink asked = sinkAt(sink);
         if (asked == null) {
             throw new IndexOutOfBoundsException("no such sink");
