@@ -18,6 +18,8 @@ public final class Barrierbrook {
     private static final int END_MARK = 20000;
     private static final int BOUND = 1000000;
     private static final int GONE = Integer.MIN_VALUE;
+    // Far above what the rows of 60 events can come to.
+    private static final int MOST_CELLS = 1000000;
 
     // Columns of an item, of an event, and of what a sink has got (whose column 0 is the hand that got it).
     // In all rows the key stands in column 1, so that rows of any kind can be dealt out by keys.
@@ -682,7 +684,7 @@ public final class Barrierbrook {
                 if (first > 0 && first >= size) {
                     System.arraycopy(cells, first * width, cells, 0, size * width);
                     first = 0;
-                } else {
+                } else if (cells.length < MOST_CELLS) {
                     cells = Arrays.copyOf(cells, 2 * cells.length + ROOM * width);
                 }
             }

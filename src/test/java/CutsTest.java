@@ -363,6 +363,8 @@ public final class CutsTest {
         Barrierbrook b = withTwoMarks();
         b.crash();
         checks.same("a crash lets hand 0 have its mark", b.mark(1, 0), 50);
+        checks.same("rescale to the same number", b.rescale(1, 2), 2);
+        checks.same("is a crash and no more", b.mark(1, 0), 50);
         checks.same("rescale", b.rescale(1, 3), 2);
         for (int h = 0; h < 3; h++) checks.same("the least mark for hand " + h, b.mark(1, h), 10);
         checks.same("the mark of the sink stays", b.mark(2, 0), 10);

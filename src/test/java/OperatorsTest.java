@@ -346,6 +346,20 @@ public final class OperatorsTest {
         Barrierbrook c = windowed(Barrierbrook.BUNCH, 2, 0, true, 0, 0);
         for (int i = 0; i < 5; i++) tell(c, 0, i, 3, 9);
         gets("counts", c, 2, "3@1=2+ 3@3=2+");
+        Barrierbrook d = new Barrierbrook();
+        d.source(1, 0, 100);
+        d.sift(0, 9);
+        d.window(1, Barrierbrook.BUNCH, 2, 0, false, 0, 0);
+        d.sink(2);
+        tell(d, 0, 1, 0, 5);
+        tell(d, 0, 2, 0, 6);
+        d.rule(1, 0);
+        d.run(1);
+        correct(d, 0, 0, -1);
+        correct(d, 0, 1, -1);
+        gets("a count of -2 is not the size", d, 3, "");
+        for (int i = 1; i <= 4; i++) tell(d, 0, i, 0, 10);
+        gets("a count below 0 comes back up", d, 3, "0@4=29+");
     }
 
     /** 0 source, 1 source, 2 operator, 3 sink. */
