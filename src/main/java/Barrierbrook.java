@@ -176,10 +176,9 @@ public final class Barrierbrook {
             throw new IllegalStateException("the last cut that is done overtook");
         }
         int had = scaled.count;
-        if (hands != had) {
-            scaled.count = hands;
-            scaled.anew = true;
-        }
+        scaled.count = hands;
+        // Also with as many hands as it had: what they know is shared out all the same.
+        scaled.anew = true;
         bringBack();
         return had;
     }
@@ -876,7 +875,7 @@ public final class Barrierbrook {
         int count;
         // How many hands it had when it joined the last cut that is done.
         int keptCount;
-        // Whether it was given another number of hands since then.
+        // Whether rescale handed it anew since then, with whatever number of hands.
         boolean anew;
         final Operator[] followers = new Operator[MOST_OPERATORS];
         int followed;

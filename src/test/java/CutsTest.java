@@ -25,6 +25,7 @@ public final class CutsTest {
         handsAnewRests();
         handsAnewLookAtTheFirst();
         handsAnewAgain();
+        handsAnewToTheSameNumber();
         promise21Joined();
         promise22IsStuck();
         checks.end();
@@ -363,8 +364,6 @@ public final class CutsTest {
         Barrierbrook b = withTwoMarks();
         b.crash();
         checks.same("a crash lets hand 0 have its mark", b.mark(1, 0), 50);
-        checks.same("rescale to the same number", b.rescale(1, 2), 2);
-        checks.same("is a crash and no more", b.mark(1, 0), 50);
         checks.same("rescale", b.rescale(1, 3), 2);
         for (int h = 0; h < 3; h++) checks.same("the least mark for hand " + h, b.mark(1, h), 10);
         checks.same("the mark of the sink stays", b.mark(2, 0), 10);
@@ -391,7 +390,8 @@ public final class CutsTest {
         checks.same("a new cut keeps the new hand", c.mark(1, 0), 20);
     }
 
-    private static void handsAnewRules() {
+    /** 0 source, 1 sift, 2 sink; by the cut that is done, hand 0 of the SIFT has taken both rules, hand 1 none. */
+    private static Barrierbrook handsWithAndWithoutRules() {
         Barrierbrook b = new Barrierbrook();
         b.source(1, 0, 10);
         b.sift(0, 0);
@@ -408,6 +408,11 @@ public final class CutsTest {
         b.crash();
         steps("hand 0 has taken them", b, 1, 0, NOTHING);
         steps("hand 1 has not", b, 1, 1, RULES, NOTHING);
+        return b;
+    }
+
+    private static void handsAnewRules() {
+        Barrierbrook b = handsWithAndWithoutRules();
         b.rescale(1, 3);
         for (int h = 0; h < 3; h++) steps("as far as the one that took the fewest", b, 1, h, RULES, NOTHING);
         Barrierbrook c = new Barrierbrook();
@@ -444,7 +449,7 @@ public final class CutsTest {
         b.run(50);
         align(b);
         checks.same("a JOIN ahead", Checks.given(b, 3), "0@10=15+ 5@10=20+ 10@10=25+ 15@10=30+");
-        int[] hands = {3, 2, 1, 3};
+        int[] hands = {1, 3, 3, 2, 2, 1, 3};
         for (int h : hands) {
             b.rescale(2, h);
             b.rescale(4, h);
@@ -504,7 +509,7 @@ public final class CutsTest {
         b.run(50);
         checks.same("lost by both hands", b.lost(1), 3);
         align(b);
-        for (int hands = 1; hands <= 3; hands += 2) {
+        for (int hands : new int[] {2, 1, 1, 3, 3}) {
             b.rescale(1, hands);
             checks.same("lost stays with hands " + hands, b.lost(1), 3);
             checks.same("what was too late stays off", b.whole(1, 15, 4), 0);
@@ -537,6 +542,27 @@ public final class CutsTest {
         align(c);
         c.rescale(1, 2);
         checks.no("hands of one that did not rest", c.rests(1, 0) || c.rests(1, 1));
+    }
+
+    /** 0 source of two partitions, 1 sink, which took last from the first channel; the cut is done. */
+    private static Barrierbrook afterTheFirstOfTwo() {
+        Barrierbrook b = plain(2);
+        b.cut(false);
+        steps("the barrier of partition 1", b, 0, 1, JOINED, WENT_OUT);
+        steps("is taken first", b, 1, 0, BARRIER);
+        steps("the barrier of partition 0", b, 0, 0, JOINED, WENT_OUT);
+        steps("is taken last", b, 1, 0, BARRIER);
+        checks.same("done", b.joined(), -1);
+        return b;
+    }
+
+    private static void takeOneOfEach(Barrierbrook b) {
+        b.event(0, 0, 0, 0, 1);
+        b.event(0, 1, 0, 1, 2);
+        steps("an event", b, 0, 0, EVENT, WENT_OUT);
+        steps("an event of the other partition", b, 0, 1, EVENT, WENT_OUT);
+        steps("both are got", b, 1, 0, RECORD, RECORD);
+        b.cut(true);
     }
 
     /** 0 source, 1 sift with two hands, 2 sink; the sink took last from the first channel. */
@@ -575,19 +601,9 @@ public final class CutsTest {
         c.rescale(1, 3);
         takeTwo(c, 2);
         checks.same("followers look at the first one next", Checks.given(c, 2), "0@0=1+ 15@0=2+");
-        Barrierbrook d = plain(2);
-        d.cut(false);
-        steps("the barrier of partition 1", d, 0, 1, JOINED, WENT_OUT);
-        steps("is taken first", d, 1, 0, BARRIER);
-        steps("the barrier of partition 0", d, 0, 0, JOINED, WENT_OUT);
-        steps("is taken last", d, 1, 0, BARRIER);
+        Barrierbrook d = afterTheFirstOfTwo();
         d.rescale(1, 2);
-        d.event(0, 0, 0, 0, 1);
-        d.event(0, 1, 0, 1, 2);
-        steps("an event", d, 0, 0, EVENT, WENT_OUT);
-        steps("an event", d, 0, 1, EVENT, WENT_OUT);
-        steps("both are got", d, 1, 0, RECORD, RECORD);
-        d.cut(true);
+        takeOneOfEach(d);
         checks.same("new hands look at the first one next", Checks.given(d, 1), "0@0=1+ 1@0=2+");
     }
 
@@ -613,6 +629,67 @@ public final class CutsTest {
         b.crash();
         checks.same("given stays", b.given(1), 2);
         checks.same("the mark of the hand", b.mark(1, 0), 5);
+    }
+
+    private static void handsAnewToTheSameNumber() {
+        Barrierbrook b = withTwoMarks();
+        checks.same("rescale to the same number", b.rescale(1, 2), 2);
+        for (int h = 0; h < 2; h++) checks.same("the least mark for hand " + h, b.mark(1, h), 10);
+        b.event(0, 0, 21, 8, 4);
+        b.run(20);
+        checks.same("a new mark", b.mark(1, 0), 20);
+        b.crash();
+        checks.same("a crash does the same", b.mark(1, 0), 10);
+        Barrierbrook c = handsWithAndWithoutRules();
+        c.rescale(1, 2);
+        for (int h = 0; h < 2; h++) steps("as far as the one that took the fewest", c, 1, h, RULES, NOTHING);
+        c.crash();
+        for (int h = 0; h < 2; h++) steps("also by a crash", c, 1, h, RULES, NOTHING);
+        sameNumberLooksAtTheFirst();
+        sameNumberEndsWithTheNextCut();
+        Barrierbrook e = plain(1);
+        e.event(0, 0, 0, 0, 1);
+        e.run(9);
+        e.cut(true);
+        checks.refusesState(e, "rescale to the same number behind one that overtook", () -> e.rescale(1, 1));
+        checks.refusesArgument(e, "rescale of a source to the same number", () -> e.rescale(0, 1));
+    }
+
+    private static void sameNumberLooksAtTheFirst() {
+        Barrierbrook b = afterTheFirstOfTwo();
+        b.crash();
+        takeOneOfEach(b);
+        checks.same("a crash: the second channel is next", Checks.given(b, 1), "1@0=2+ 0@0=1+");
+        Barrierbrook c = afterTheFirstOfTwo();
+        c.rescale(1, 1);
+        takeOneOfEach(c);
+        checks.same("one hand as before looks at the first", Checks.given(c, 1), "0@0=1+ 1@0=2+");
+        Barrierbrook d = afterTheFirstOfTwo();
+        d.rescale(1, 1);
+        d.crash();
+        takeOneOfEach(d);
+        checks.same("also by a crash later on", Checks.given(d, 1), "0@0=1+ 1@0=2+");
+        Barrierbrook e = afterTheFirst();
+        e.rescale(1, 2);
+        takeTwo(e, 1);
+        checks.same("followers look at the first one, too", Checks.given(e, 2), "0@0=1+ 15@0=2+");
+        Barrierbrook f = afterTheFirst();
+        f.rescale(2, 1);
+        takeTwo(f, 1);
+        checks.same("and so does the sink when it is handed anew", Checks.given(f, 2), "0@0=1+ 15@0=2+");
+    }
+
+    private static void sameNumberEndsWithTheNextCut() {
+        Barrierbrook b = afterTheFirstOfTwo();
+        b.rescale(1, 1);
+        b.cut(false);
+        steps("the barrier of partition 1", b, 0, 1, JOINED, WENT_OUT);
+        steps("is taken first", b, 1, 0, BARRIER);
+        steps("the barrier of partition 0", b, 0, 0, JOINED, WENT_OUT);
+        steps("is taken last", b, 1, 0, BARRIER);
+        b.crash();
+        takeOneOfEach(b);
+        checks.same("a new cut keeps what is next", Checks.given(b, 1), "1@0=2+ 0@0=1+");
     }
 
     private static void promise21Joined() {

@@ -278,11 +278,9 @@ final class Model {
         range(o.kind != Kind.SOURCE && in(hands, 1, 3));
         state(!overtook);
         int had = o.hands.size();
-        if (hands != had) {
-            o.anew = true;
-            while (o.hands.size() > hands) o.hands.remove(o.hands.size() - 1);
-            while (o.hands.size() < hands) o.hands.add(new Hand());
-        }
+        o.anew = true;
+        while (o.hands.size() > hands) o.hands.remove(o.hands.size() - 1);
+        while (o.hands.size() < hands) o.hands.add(new Hand());
         crash();
         return had;
     }
