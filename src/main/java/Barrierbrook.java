@@ -17,7 +17,8 @@ public final class Barrierbrook {
     private static final int MOST_NUMBER = 9999;
     private static final int END_MARK = 20000;
     private static final int BOUND = 1000000;
-    private static final int GONE = Integer.MIN_VALUE;
+    // No value that is given out is below the bound.
+    private static final int GONE = -BOUND - 1;
     // Far above what the rows of 60 events can come to.
     private static final int MOST_CELLS = 1000000;
 

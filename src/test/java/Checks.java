@@ -30,6 +30,13 @@ final class Checks {
         same(what, String.valueOf(got), "false");
     }
 
+    /** Lets a hand step, so many times as answers are due. */
+    void steps(String what, Barrierbrook b, int operator, int hand, int... due) {
+        for (int i = 0; i < due.length; i++) {
+            same(what + ", step " + i + " of " + operator + "/" + hand, b.step(operator, hand), due[i]);
+        }
+    }
+
     /** The call must throw just this exception, and change nothing that can be seen. */
     void refuses(Barrierbrook b, Class<? extends RuntimeException> due, String what, LongSupplier call) {
         String before = picture(b);

@@ -31,12 +31,6 @@ public final class CutsTest {
         checks.end();
     }
 
-    private static void steps(String what, Barrierbrook b, int operator, int hand, int... due) {
-        for (int i = 0; i < due.length; i++) {
-            checks.same(what + ", step " + i + " of " + operator + "/" + hand, b.step(operator, hand), due[i]);
-        }
-    }
-
     /** 0 source of so many partitions, 1 sink. */
     private static Barrierbrook plain(int partitions) {
         Barrierbrook b = new Barrierbrook();
@@ -71,29 +65,29 @@ public final class CutsTest {
     private static void aligns() {
         Barrierbrook b = plain(2);
         for (int p = 0; p < 2; p++) for (int i = 0; i < 4; i++) b.event(0, p, 0, p, i);
-        steps("records ahead of the cut", b, 0, 0, EVENT, WENT_OUT);
-        steps("records ahead of the cut", b, 0, 1, EVENT);
+        checks.steps("records ahead of the cut", b, 0, 0, EVENT, WENT_OUT);
+        checks.steps("records ahead of the cut", b, 0, 1, EVENT);
         b.cut(false);
         checks.same("nobody has joined", b.joined(), 0);
-        steps("joins ahead of the next event", b, 0, 0, JOINED, WENT_OUT, EVENT, WENT_OUT);
+        checks.steps("joins ahead of the next event", b, 0, 0, JOINED, WENT_OUT, EVENT, WENT_OUT);
         checks.same("one has joined", b.joined(), 1);
-        steps("the sink, up to the barrier", b, 1, 0, RECORD, BARRIER, NOTHING);
+        checks.steps("the sink, up to the barrier", b, 1, 0, RECORD, BARRIER, NOTHING);
         checks.same("the channel is held", b.waiting(1, 0), 1);
         checks.same("a hand that waits for a barrier has not joined", b.joined(), 1);
-        steps("the other partition goes on as it was", b, 0, 1, WENT_OUT, JOINED);
+        checks.steps("the other partition goes on as it was", b, 0, 1, WENT_OUT, JOINED);
         checks.same("two have joined", b.joined(), 2);
-        steps("the other channel is not held", b, 1, 0, RECORD, NOTHING);
+        checks.steps("the other channel is not held", b, 1, 0, RECORD, NOTHING);
         checks.same("what was got is not given out", b.given(1), 0);
         checks.same("but pending", b.pending(1), 2);
-        steps("the barrier goes out", b, 0, 1, WENT_OUT, EVENT, WENT_OUT);
-        steps("the barrier lets the sink join", b, 1, 0, BARRIER);
+        checks.steps("the barrier goes out", b, 0, 1, WENT_OUT, EVENT, WENT_OUT);
+        checks.steps("the barrier lets the sink join", b, 1, 0, BARRIER);
         checks.same("the cut is done", b.joined(), -1);
         checks.same("what was got is given out", Checks.given(b, 1), "0@0=0+ 1@0=0+");
         checks.same("the sink gives out a barrier", b.outRow(1, 0), 1);
-        steps("it holds none any more", b, 1, 0, WENT_OUT, RECORD, RECORD, NOTHING);
+        checks.steps("it holds none any more", b, 1, 0, WENT_OUT, RECORD, RECORD, NOTHING);
         checks.same("behind the barriers", b.pending(1), 2);
         checks.same("given stays", b.given(1), 2);
-        steps("no more barriers", b, 0, 0, EVENT);
+        checks.steps("no more barriers", b, 0, 0, EVENT);
     }
 
     private static void sinkOfTwoHands() {
@@ -101,15 +95,15 @@ public final class CutsTest {
         b.rescale(1, 2);
         int[] keys = {0, 8, 0, 8};
         for (int i = 0; i < 4; i++) b.event(0, 0, 0, keys[i], i);
-        for (int i = 0; i < 3; i++) steps("events", b, 0, 0, EVENT, WENT_OUT);
-        steps("hand 1 first", b, 1, 1, RECORD);
-        steps("then hand 0", b, 1, 0, RECORD, RECORD);
+        for (int i = 0; i < 3; i++) checks.steps("events", b, 0, 0, EVENT, WENT_OUT);
+        checks.steps("hand 1 first", b, 1, 1, RECORD);
+        checks.steps("then hand 0", b, 1, 0, RECORD, RECORD);
         b.cut(false);
-        steps("the barrier, and an event behind it", b, 0, 0, JOINED, WENT_OUT, EVENT, WENT_OUT);
-        steps("hand 1 joins, and gets more", b, 1, 1, BARRIER, WENT_OUT, RECORD);
+        checks.steps("the barrier, and an event behind it", b, 0, 0, JOINED, WENT_OUT, EVENT, WENT_OUT);
+        checks.steps("hand 1 joins, and gets more", b, 1, 1, BARRIER, WENT_OUT, RECORD);
         checks.same("all is pending", b.pending(1), 4);
         checks.same("two of three", b.joined(), 2);
-        steps("hand 0 joins", b, 1, 0, BARRIER);
+        checks.steps("hand 0 joins", b, 1, 0, BARRIER);
         checks.same("in the order in which it got that", Checks.given(b, 1), "8@0=1+ 0@0=0+ 0@0=2+");
         checks.same("what came behind", b.pending(1), 1);
         b.cut(true);
@@ -120,9 +114,9 @@ public final class CutsTest {
         Barrierbrook b = plain(2);
         for (int i = 1; i <= 5; i++) b.event(0, 0, i, 0, i);
         b.event(0, 1, 7, 9, 9);
-        steps("a full channel", b, 0, 0, EVENT, WENT_OUT, EVENT, WENT_OUT, EVENT);
-        steps("another one", b, 0, 1, EVENT, WENT_OUT);
-        steps("one is got", b, 1, 0, RECORD);
+        checks.steps("a full channel", b, 0, 0, EVENT, WENT_OUT, EVENT, WENT_OUT, EVENT);
+        checks.steps("another one", b, 0, 1, EVENT, WENT_OUT);
+        checks.steps("one is got", b, 1, 0, RECORD);
         checks.same("a cut that overtakes", b.cut(true), 0);
         checks.same("is done at once", b.joined(), -1);
         checks.same("what was got is given out", Checks.given(b, 1), "0@1=1+");
@@ -179,18 +173,18 @@ public final class CutsTest {
         b.event(0, 0, 5, 0, 1);
         b.run(5);
         b.cut(false);
-        steps("a barrier", b, 0, 0, JOINED, WENT_OUT);
-        steps("it is taken", b, 1, 0, BARRIER);
+        checks.steps("a barrier", b, 0, 0, JOINED, WENT_OUT);
+        checks.steps("it is taken", b, 1, 0, BARRIER);
         b.crash();
         checks.same("forgotten", b.joined(), -1);
-        steps("no barrier", b, 0, 0, EVENT, WENT_OUT);
-        steps("no channel is held", b, 1, 0, RECORD, MARK);
-        steps("no barrier of the other one", b, 0, 1, NOTHING);
+        checks.steps("no barrier", b, 0, 0, EVENT, WENT_OUT);
+        checks.steps("no channel is held", b, 1, 0, RECORD, MARK);
+        checks.steps("no barrier of the other one", b, 0, 1, NOTHING);
         checks.same("the next cut", b.cut(false), 1);
         b.run(20);
         checks.same("is done", b.given(1), 1);
         b.cut(false);
-        steps("what joined", b, 0, 0, JOINED);
+        checks.steps("what joined", b, 0, 0, JOINED);
         b.crash();
         checks.same("what was given out stays", b.given(1), 1);
         b.run(20);
@@ -236,20 +230,20 @@ public final class CutsTest {
         b.event(0, 1, 0, 1, 1);
         b.event(0, 0, 0, 0, 2);
         b.event(0, 1, 0, 1, 2);
-        steps("partition 1 joins last", b, 0, 0, EVENT, WENT_OUT);
-        steps("a record", b, 0, 1, EVENT, WENT_OUT);
-        steps("both are taken", b, 1, 0, RECORD, RECORD);
+        checks.steps("partition 1 joins last", b, 0, 0, EVENT, WENT_OUT);
+        checks.steps("a record", b, 0, 1, EVENT, WENT_OUT);
+        checks.steps("both are taken", b, 1, 0, RECORD, RECORD);
         b.cut(false);
-        steps("the barrier of partition 1", b, 0, 1, JOINED, WENT_OUT);
-        steps("is taken", b, 1, 0, BARRIER);
-        steps("the barrier of partition 0", b, 0, 0, JOINED, WENT_OUT);
-        steps("is taken behind it", b, 1, 0, BARRIER, WENT_OUT);
+        checks.steps("the barrier of partition 1", b, 0, 1, JOINED, WENT_OUT);
+        checks.steps("is taken", b, 1, 0, BARRIER);
+        checks.steps("the barrier of partition 0", b, 0, 0, JOINED, WENT_OUT);
+        checks.steps("is taken behind it", b, 1, 0, BARRIER, WENT_OUT);
         checks.same("done", b.given(1), 2);
         for (int i = 0; i < 2; i++) {
             b.crash();
-            steps("a record", b, 0, 0, EVENT, WENT_OUT);
-            steps("a record", b, 0, 1, EVENT, WENT_OUT);
-            steps("both are taken", b, 1, 0, RECORD, RECORD);
+            checks.steps("a record", b, 0, 0, EVENT, WENT_OUT);
+            checks.steps("a record", b, 0, 1, EVENT, WENT_OUT);
+            checks.steps("both are taken", b, 1, 0, RECORD, RECORD);
         }
         b.cut(true);
         checks.same("partition 1 is looked at next", Checks.given(b, 1, 2), "1@0=2+ 0@0=2+");
@@ -261,7 +255,7 @@ public final class CutsTest {
         b.event(0, 0, 10, 0, 0);
         b.run(10);
         b.tick(10);
-        steps("partition 1 rests", b, 0, 1, RESTED);
+        checks.steps("partition 1 rests", b, 0, 1, RESTED);
         b.run(10);
         align(b);
         checks.same("mark", b.mark(1, 0), 9);
@@ -270,8 +264,8 @@ public final class CutsTest {
         b.crash();
         checks.yes("the partition rests again", b.rests(0, 1));
         b.end(0, 0);
-        steps("the end of the other one", b, 0, 0, EVENT, WENT_OUT);
-        steps("its channel is at rest again", b, 1, 0, MARK);
+        checks.steps("the end of the other one", b, 0, 0, EVENT, WENT_OUT);
+        checks.steps("its channel is at rest again", b, 1, 0, MARK);
         checks.same("so that the mark rises", b.mark(1, 0), 20000);
         Barrierbrook c = plain(2);
         c.event(0, 0, 10, 0, 0);
@@ -280,8 +274,8 @@ public final class CutsTest {
         align(c);
         c.crash();
         c.event(0, 0, 15, 0, 0);
-        steps("a mark of one", c, 0, 0, EVENT, WENT_OUT);
-        steps("is taken", c, 1, 0, RECORD, MARK);
+        checks.steps("a mark of one", c, 0, 0, EVENT, WENT_OUT);
+        checks.steps("is taken", c, 1, 0, RECORD, MARK);
         checks.same("the other channel has its mark again", c.mark(1, 0), 14);
     }
 
@@ -344,14 +338,14 @@ public final class CutsTest {
         b.event(0, 0, 4, 0, 1);
         b.run(9);
         b.tick(1);
-        steps("a rest", b, 0, 0, RESTED, WENT_OUT);
+        checks.steps("a rest", b, 0, 0, RESTED, WENT_OUT);
         b.event(0, 0, 11, 0, 2);
-        steps("and an event behind it", b, 0, 0, EVENT, WENT_OUT);
-        steps("hand 1 hears of both", b, 1, 1, REST, MARK, NOTHING);
+        checks.steps("and an event behind it", b, 0, 0, EVENT, WENT_OUT);
+        checks.steps("hand 1 hears of both", b, 1, 1, REST, MARK, NOTHING);
         b.event(0, 1, 51, 0, 3);
-        steps("partition 1 has mark 50", b, 0, 1, EVENT, WENT_OUT);
-        steps("hand 1 hears of it", b, 1, 1, MARK, WENT_OUT);
-        steps("hand 0 hears of it between", b, 1, 0, RECORD, WENT_OUT, REST, MARK);
+        checks.steps("partition 1 has mark 50", b, 0, 1, EVENT, WENT_OUT);
+        checks.steps("hand 1 hears of it", b, 1, 1, MARK, WENT_OUT);
+        checks.steps("hand 0 hears of it between", b, 1, 0, RECORD, WENT_OUT, REST, MARK);
         b.run(9);
         align(b);
         checks.same("the mark of hand 0", b.mark(1, 0), 50);
@@ -379,9 +373,9 @@ public final class CutsTest {
         Barrierbrook c = withTwoMarks();
         c.rescale(1, 1);
         c.event(0, 0, 21, 8, 4);
-        steps("an event", c, 0, 0, EVENT, WENT_OUT);
-        steps("one hand", c, 1, 0, RECORD, WENT_OUT, MARK, WENT_OUT);
-        steps("the sink hears marks of one hand alone", c, 2, 0, RECORD, MARK);
+        checks.steps("an event", c, 0, 0, EVENT, WENT_OUT);
+        checks.steps("one hand", c, 1, 0, RECORD, WENT_OUT, MARK, WENT_OUT);
+        checks.steps("the sink hears marks of one hand alone", c, 2, 0, RECORD, MARK);
         checks.same("its mark", c.mark(2, 0), 20);
         align(c);
         c.event(0, 0, 31, 8, 4);
@@ -398,23 +392,23 @@ public final class CutsTest {
         b.sink(1);
         b.rescale(1, 2);
         b.cut(false);
-        steps("a barrier", b, 0, 0, JOINED, WENT_OUT);
-        steps("hand 1 joins without a rule", b, 1, 1, BARRIER);
+        checks.steps("a barrier", b, 0, 0, JOINED, WENT_OUT);
+        checks.steps("hand 1 joins without a rule", b, 1, 1, BARRIER);
         b.rule(1, 5);
         b.rule(1, 6);
-        steps("hand 0 joins with both", b, 1, 0, RULES, BARRIER);
+        checks.steps("hand 0 joins with both", b, 1, 0, RULES, BARRIER);
         b.run(9);
         checks.same("done", b.joined(), -1);
         b.crash();
-        steps("hand 0 has taken them", b, 1, 0, NOTHING);
-        steps("hand 1 has not", b, 1, 1, RULES, NOTHING);
+        checks.steps("hand 0 has taken them", b, 1, 0, NOTHING);
+        checks.steps("hand 1 has not", b, 1, 1, RULES, NOTHING);
         return b;
     }
 
     private static void handsAnewRules() {
         Barrierbrook b = handsWithAndWithoutRules();
         b.rescale(1, 3);
-        for (int h = 0; h < 3; h++) steps("as far as the one that took the fewest", b, 1, h, RULES, NOTHING);
+        for (int h = 0; h < 3; h++) checks.steps("as far as the one that took the fewest", b, 1, h, RULES, NOTHING);
         Barrierbrook c = new Barrierbrook();
         c.source(1, 0, 10);
         c.sift(0, 0);
@@ -429,7 +423,7 @@ public final class CutsTest {
         c.run(20);
         checks.same("all hands have the rule", c.pending(2), 2);
         c.rescale(1, 1);
-        steps("and then the one", c, 1, 0, NOTHING);
+        checks.steps("and then the one", c, 1, 0, NOTHING);
     }
 
     private static void handsAnewStates() {
@@ -531,9 +525,9 @@ public final class CutsTest {
         b.rescale(1, 3);
         for (int h = 0; h < 3; h++) checks.yes("hand " + h + " rests", b.rests(1, h));
         b.event(0, 0, 5, 0, 0);
-        steps("an event", b, 0, 0, EVENT, WENT_OUT);
-        steps("ends the rest of hand 0", b, 1, 0, RECORD);
-        steps("its mark ends the rest of hand 2", b, 1, 2, MARK);
+        checks.steps("an event", b, 0, 0, EVENT, WENT_OUT);
+        checks.steps("ends the rest of hand 0", b, 1, 0, RECORD);
+        checks.steps("its mark ends the rest of hand 2", b, 1, 2, MARK);
         checks.yes("hand 1 rests", b.rests(1, 1));
         checks.no("hand 2 does not", b.rests(1, 2));
         Barrierbrook c = plain(1);
@@ -548,10 +542,10 @@ public final class CutsTest {
     private static Barrierbrook afterTheFirstOfTwo() {
         Barrierbrook b = plain(2);
         b.cut(false);
-        steps("the barrier of partition 1", b, 0, 1, JOINED, WENT_OUT);
-        steps("is taken first", b, 1, 0, BARRIER);
-        steps("the barrier of partition 0", b, 0, 0, JOINED, WENT_OUT);
-        steps("is taken last", b, 1, 0, BARRIER);
+        checks.steps("the barrier of partition 1", b, 0, 1, JOINED, WENT_OUT);
+        checks.steps("is taken first", b, 1, 0, BARRIER);
+        checks.steps("the barrier of partition 0", b, 0, 0, JOINED, WENT_OUT);
+        checks.steps("is taken last", b, 1, 0, BARRIER);
         checks.same("done", b.joined(), -1);
         return b;
     }
@@ -559,9 +553,9 @@ public final class CutsTest {
     private static void takeOneOfEach(Barrierbrook b) {
         b.event(0, 0, 0, 0, 1);
         b.event(0, 1, 0, 1, 2);
-        steps("an event", b, 0, 0, EVENT, WENT_OUT);
-        steps("an event of the other partition", b, 0, 1, EVENT, WENT_OUT);
-        steps("both are got", b, 1, 0, RECORD, RECORD);
+        checks.steps("an event", b, 0, 0, EVENT, WENT_OUT);
+        checks.steps("an event of the other partition", b, 0, 1, EVENT, WENT_OUT);
+        checks.steps("both are got", b, 1, 0, RECORD, RECORD);
         b.cut(true);
     }
 
@@ -573,11 +567,11 @@ public final class CutsTest {
         b.sink(1);
         b.rescale(1, 2);
         b.cut(false);
-        steps("a barrier", b, 0, 0, JOINED, WENT_OUT);
-        steps("of hand 1", b, 1, 1, BARRIER, WENT_OUT);
-        steps("is taken first", b, 2, 0, BARRIER);
-        steps("of hand 0", b, 1, 0, BARRIER, WENT_OUT);
-        steps("is taken last", b, 2, 0, BARRIER);
+        checks.steps("a barrier", b, 0, 0, JOINED, WENT_OUT);
+        checks.steps("of hand 1", b, 1, 1, BARRIER, WENT_OUT);
+        checks.steps("is taken first", b, 2, 0, BARRIER);
+        checks.steps("of hand 0", b, 1, 0, BARRIER, WENT_OUT);
+        checks.steps("is taken last", b, 2, 0, BARRIER);
         checks.same("done", b.joined(), -1);
         b.event(0, 0, 0, 0, 1);
         b.event(0, 0, 0, 15, 2);
@@ -585,10 +579,10 @@ public final class CutsTest {
     }
 
     private static void takeTwo(Barrierbrook b, int last) {
-        steps("two events", b, 0, 0, EVENT, WENT_OUT, EVENT, WENT_OUT);
-        steps("a record", b, 1, 0, RECORD, WENT_OUT);
-        steps("another one", b, 1, last, RECORD, WENT_OUT);
-        steps("both are got", b, 2, 0, RECORD, RECORD);
+        checks.steps("two events", b, 0, 0, EVENT, WENT_OUT, EVENT, WENT_OUT);
+        checks.steps("a record", b, 1, 0, RECORD, WENT_OUT);
+        checks.steps("another one", b, 1, last, RECORD, WENT_OUT);
+        checks.steps("both are got", b, 2, 0, RECORD, RECORD);
         b.cut(true);
     }
 
@@ -642,9 +636,9 @@ public final class CutsTest {
         checks.same("a crash does the same", b.mark(1, 0), 10);
         Barrierbrook c = handsWithAndWithoutRules();
         c.rescale(1, 2);
-        for (int h = 0; h < 2; h++) steps("as far as the one that took the fewest", c, 1, h, RULES, NOTHING);
+        for (int h = 0; h < 2; h++) checks.steps("as far as the one that took the fewest", c, 1, h, RULES, NOTHING);
         c.crash();
-        for (int h = 0; h < 2; h++) steps("also by a crash", c, 1, h, RULES, NOTHING);
+        for (int h = 0; h < 2; h++) checks.steps("also by a crash", c, 1, h, RULES, NOTHING);
         sameNumberLooksAtTheFirst();
         sameNumberEndsWithTheNextCut();
         Barrierbrook e = plain(1);
@@ -683,10 +677,10 @@ public final class CutsTest {
         Barrierbrook b = afterTheFirstOfTwo();
         b.rescale(1, 1);
         b.cut(false);
-        steps("the barrier of partition 1", b, 0, 1, JOINED, WENT_OUT);
-        steps("is taken first", b, 1, 0, BARRIER);
-        steps("the barrier of partition 0", b, 0, 0, JOINED, WENT_OUT);
-        steps("is taken last", b, 1, 0, BARRIER);
+        checks.steps("the barrier of partition 1", b, 0, 1, JOINED, WENT_OUT);
+        checks.steps("is taken first", b, 1, 0, BARRIER);
+        checks.steps("the barrier of partition 0", b, 0, 0, JOINED, WENT_OUT);
+        checks.steps("is taken last", b, 1, 0, BARRIER);
         b.crash();
         takeOneOfEach(b);
         checks.same("a new cut keeps what is next", Checks.given(b, 1), "1@0=2+ 0@0=1+");
@@ -700,18 +694,18 @@ public final class CutsTest {
         b.rescale(1, 3);
         b.cut(false);
         checks.same("none", b.joined(), 0);
-        steps("partition 1", b, 0, 1, JOINED);
+        checks.steps("partition 1", b, 0, 1, JOINED);
         checks.same("one", b.joined(), 1);
-        steps("it joins but once", b, 0, 1, WENT_OUT, NOTHING);
-        steps("partition 0", b, 0, 0, JOINED, WENT_OUT);
+        checks.steps("it joins but once", b, 0, 1, WENT_OUT, NOTHING);
+        checks.steps("partition 0", b, 0, 0, JOINED, WENT_OUT);
         checks.same("two", b.joined(), 2);
-        steps("hand 2", b, 1, 2, BARRIER);
+        checks.steps("hand 2", b, 1, 2, BARRIER);
         checks.same("one barrier of two", b.joined(), 2);
-        steps("hand 2", b, 1, 2, BARRIER);
+        checks.steps("hand 2", b, 1, 2, BARRIER);
         checks.same("three", b.joined(), 3);
-        steps("hand 0", b, 1, 0, BARRIER, BARRIER);
+        checks.steps("hand 0", b, 1, 0, BARRIER, BARRIER);
         checks.same("four", b.joined(), 4);
-        steps("hand 1", b, 1, 1, BARRIER, BARRIER);
+        checks.steps("hand 1", b, 1, 1, BARRIER, BARRIER);
         checks.same("done", b.joined(), -1);
     }
 
@@ -720,13 +714,13 @@ public final class CutsTest {
         checks.no("nothing waits", b.isStuck());
         for (int i = 0; i < 3; i++) b.event(0, 0, i, 0, i);
         checks.no("an event is there", b.isStuck());
-        steps("a full channel and out row", b, 0, 0, EVENT, WENT_OUT, EVENT, WENT_OUT, EVENT, WENT_OUT, NOTHING);
+        checks.steps("a full channel and out row", b, 0, 0, EVENT, WENT_OUT, EVENT, WENT_OUT, EVENT, WENT_OUT, NOTHING);
         checks.no("the sink could step", b.isStuck());
         b.run(20);
         checks.no("all has flown", b.isStuck());
         b.cut(false);
-        steps("a barrier", b, 0, 0, JOINED, WENT_OUT);
-        steps("is taken", b, 1, 0, BARRIER, NOTHING);
+        checks.steps("a barrier", b, 0, 0, JOINED, WENT_OUT);
+        checks.steps("is taken", b, 1, 0, BARRIER, NOTHING);
         checks.no("the other partition has to join", b.isStuck());
         b.run(20);
         checks.no("the cut is done", b.isStuck());

@@ -75,7 +75,7 @@ public final class LanguageTest {
         String[] forbidden = {"->", "::", "@", "Exact", "finally", "synchronized", "assert ", "catch", "package ",
             "Random", "Thread", "System.currentTimeMillis", "nanoTime", "System.out", "getClass", "equals(",
             "hashCode", "toString", "\" +", "+ \"", "RuntimeException", "ArrayIndexOutOfBounds", "NullPointer",
-            "static {"};
+            "static {", "MIN_VALUE", "MAX_VALUE"};
         String code = text.replaceAll("//[^\n]*", "").replaceAll("(?s)/\\*.*?\\*/", "");
         for (String word : forbidden) checks.no("the code holds '" + word + "'", code.contains(word));
         Matcher imports = Pattern.compile("import ([^;]*);").matcher(code);

@@ -24,12 +24,6 @@ public final class StepsTest {
         checks.end();
     }
 
-    private static void steps(String what, Barrierbrook b, int operator, int hand, int... due) {
-        for (int i = 0; i < due.length; i++) {
-            checks.same(what + ", step " + i + " of " + operator + "/" + hand, b.step(operator, hand), due[i]);
-        }
-    }
-
     /** 0 source of so many partitions, 1 sink. */
     private static Barrierbrook plain(int partitions) {
         Barrierbrook b = new Barrierbrook();
@@ -59,36 +53,36 @@ public final class StepsTest {
         b.sink(1);
         b.event(0, 0, 5, 0, 5);
         b.rule(1, 1);
-        steps("an event", b, 0, 0, EVENT, WENT_OUT, NOTHING);
-        steps("a rule, a record, a mark", b, 1, 0, RULES, RECORD, WENT_OUT, MARK, WENT_OUT, NOTHING);
-        steps("the sink", b, 2, 0, RECORD, MARK, WENT_OUT, NOTHING);
+        checks.steps("an event", b, 0, 0, EVENT, WENT_OUT, NOTHING);
+        checks.steps("a rule, a record, a mark", b, 1, 0, RULES, RECORD, WENT_OUT, MARK, WENT_OUT, NOTHING);
+        checks.steps("the sink", b, 2, 0, RECORD, MARK, WENT_OUT, NOTHING);
         b.tick(10);
-        steps("a rest", b, 0, 0, RESTED, WENT_OUT, NOTHING);
-        steps("a rest goes on", b, 1, 0, REST, WENT_OUT, NOTHING);
-        steps("a rest in the sink", b, 2, 0, REST, WENT_OUT, NOTHING);
+        checks.steps("a rest", b, 0, 0, RESTED, WENT_OUT, NOTHING);
+        checks.steps("a rest goes on", b, 1, 0, REST, WENT_OUT, NOTHING);
+        checks.steps("a rest in the sink", b, 2, 0, REST, WENT_OUT, NOTHING);
         b.cut(false);
-        steps("a barrier", b, 0, 0, JOINED, WENT_OUT, NOTHING);
-        steps("a barrier goes on", b, 1, 0, BARRIER, WENT_OUT, NOTHING);
-        steps("a barrier in the sink", b, 2, 0, BARRIER, WENT_OUT, NOTHING);
+        checks.steps("a barrier", b, 0, 0, JOINED, WENT_OUT, NOTHING);
+        checks.steps("a barrier goes on", b, 1, 0, BARRIER, WENT_OUT, NOTHING);
+        checks.steps("a barrier in the sink", b, 2, 0, BARRIER, WENT_OUT, NOTHING);
         checks.same("the cut is done", b.given(2), 1);
     }
 
     private static void littleRoom() {
         Barrierbrook b = plain(1);
         for (int i = 1; i <= 4; i++) b.event(0, 0, i, 0, i);
-        steps("two events", b, 0, 0, EVENT, WENT_OUT, EVENT, WENT_OUT);
+        checks.steps("two events", b, 0, 0, EVENT, WENT_OUT, EVENT, WENT_OUT);
         checks.same("four items wait", b.waiting(1, 0), 4);
-        steps("no room", b, 0, 0, EVENT, NOTHING, NOTHING);
+        checks.steps("no room", b, 0, 0, EVENT, NOTHING, NOTHING);
         checks.same("two items in the out row", b.outRow(0, 0), 2);
-        steps("room for one", b, 1, 0, RECORD);
-        steps("one goes out", b, 0, 0, WENT_OUT, NOTHING);
+        checks.steps("room for one", b, 1, 0, RECORD);
+        checks.steps("one goes out", b, 0, 0, WENT_OUT, NOTHING);
         checks.same("one item in the out row", b.outRow(0, 0), 1);
         checks.same("four items wait again", b.waiting(1, 0), 4);
         b.cut(false);
         b.tick(50);
-        steps("nothing else is tried", b, 0, 0, NOTHING);
-        steps("the sink", b, 1, 0, MARK, WENT_OUT, RECORD, MARK, WENT_OUT);
-        steps("now the barrier, ahead of the next event", b, 0, 0, WENT_OUT, JOINED, WENT_OUT, EVENT);
+        checks.steps("nothing else is tried", b, 0, 0, NOTHING);
+        checks.steps("the sink", b, 1, 0, MARK, WENT_OUT, RECORD, MARK, WENT_OUT);
+        checks.steps("now the barrier, ahead of the next event", b, 0, 0, WENT_OUT, JOINED, WENT_OUT, EVENT);
     }
 
     private static void roomInAllChannels() {
@@ -97,12 +91,12 @@ public final class StepsTest {
         b.sink(0);
         b.sink(0);
         for (int i = 1; i <= 4; i++) b.event(0, 0, i, 0, i);
-        steps("two events", b, 0, 0, EVENT, WENT_OUT, EVENT, WENT_OUT, EVENT);
-        steps("the first sink takes all", b, 1, 0, RECORD, MARK, WENT_OUT, RECORD, MARK);
-        steps("there is no room in the second one", b, 0, 0, NOTHING);
+        checks.steps("two events", b, 0, 0, EVENT, WENT_OUT, EVENT, WENT_OUT, EVENT);
+        checks.steps("the first sink takes all", b, 1, 0, RECORD, MARK, WENT_OUT, RECORD, MARK);
+        checks.steps("there is no room in the second one", b, 0, 0, NOTHING);
         checks.same("nothing went into the first one", b.waiting(1, 0), 0);
-        steps("the second sink takes one", b, 2, 0, RECORD);
-        steps("one goes out", b, 0, 0, WENT_OUT);
+        checks.steps("the second sink takes one", b, 2, 0, RECORD);
+        checks.steps("one goes out", b, 0, 0, WENT_OUT);
         checks.same("into the first one", b.waiting(1, 0), 1);
         checks.same("and into the second one", b.waiting(2, 0), 4);
     }
@@ -125,23 +119,23 @@ public final class StepsTest {
         Barrierbrook b = plain(1);
         b.rescale(1, 3);
         b.event(0, 0, 9, 0, 1);
-        steps("a record and a mark", b, 0, 0, EVENT, WENT_OUT);
+        checks.steps("a record and a mark", b, 0, 0, EVENT, WENT_OUT);
         checks.same("record and mark", b.waiting(1, 0), 2);
         checks.same("the mark goes to all hands", b.waiting(1, 1) + b.waiting(1, 2), 2);
         for (int i = 0; i < 3; i++) b.event(0, 0, 9, 15, 1);
-        steps("records alone", b, 0, 0, EVENT, WENT_OUT, EVENT, WENT_OUT, EVENT, WENT_OUT);
+        checks.steps("records alone", b, 0, 0, EVENT, WENT_OUT, EVENT, WENT_OUT, EVENT, WENT_OUT);
         checks.same("hand 2 is full", b.waiting(1, 2), 4);
         b.event(0, 0, 9, 0, 1);
-        steps("a record for another hand has room", b, 0, 0, EVENT, WENT_OUT);
+        checks.steps("a record for another hand has room", b, 0, 0, EVENT, WENT_OUT);
         b.tick(10);
-        steps("a rest has not, as it goes to all", b, 0, 0, RESTED, NOTHING);
+        checks.steps("a rest has not, as it goes to all", b, 0, 0, RESTED, NOTHING);
     }
 
     private static void nothingBehindNobody() {
         Barrierbrook b = new Barrierbrook();
         b.source(1, 0, 10);
         for (int i = 1; i <= 9; i++) b.event(0, 0, i, 0, i);
-        for (int i = 1; i <= 9; i++) steps("no followers", b, 0, 0, EVENT, WENT_OUT);
+        for (int i = 1; i <= 9; i++) checks.steps("no followers", b, 0, 0, EVENT, WENT_OUT);
         checks.same("all is gone", b.outRow(0, 0), 0);
         Barrierbrook c = plain(1);
         c.event(0, 0, 5, 0, 1);
@@ -157,13 +151,13 @@ public final class StepsTest {
         for (int p = 0; p < 3; p++) {
             for (int i = 0; i < 3; i++) b.event(0, p, 0, p, i);
         }
-        for (int p : new int[] {0, 2}) steps("records", b, 0, p, EVENT, WENT_OUT, EVENT, WENT_OUT);
-        steps("the first one, the third one, the first one", b, 1, 0, RECORD, RECORD, RECORD);
-        steps("a record of the second one", b, 0, 1, EVENT, WENT_OUT);
-        steps("the second one, the third one", b, 1, 0, RECORD, RECORD);
-        steps("more of all", b, 0, 0, EVENT, WENT_OUT);
-        steps("more of all", b, 0, 1, EVENT, WENT_OUT);
-        steps("the first one, the second one", b, 1, 0, RECORD, RECORD, NOTHING);
+        for (int p : new int[] {0, 2}) checks.steps("records", b, 0, p, EVENT, WENT_OUT, EVENT, WENT_OUT);
+        checks.steps("the first one, the third one, the first one", b, 1, 0, RECORD, RECORD, RECORD);
+        checks.steps("a record of the second one", b, 0, 1, EVENT, WENT_OUT);
+        checks.steps("the second one, the third one", b, 1, 0, RECORD, RECORD);
+        checks.steps("more of all", b, 0, 0, EVENT, WENT_OUT);
+        checks.steps("more of all", b, 0, 1, EVENT, WENT_OUT);
+        checks.steps("the first one, the second one", b, 1, 0, RECORD, RECORD, NOTHING);
         b.cut(true);
         checks.same("in this order", Checks.given(b, 1),
             "0@0=0+ 2@0=0+ 0@0=1+ 1@0=0+ 2@0=1+ 0@0=2+ 1@0=1+");
@@ -183,9 +177,9 @@ public final class StepsTest {
             b.step(0, 1);
             b.step(1, 0);
         }
-        steps("its first input first", b, 2, 0, RECORD);
+        checks.steps("its first input first", b, 2, 0, RECORD);
         checks.same("nothing to join with", b.outRow(2, 0), 0);
-        steps("then the hands of the second one", b, 2, 0, RECORD, WENT_OUT, RECORD, WENT_OUT, NOTHING);
+        checks.steps("then the hands of the second one", b, 2, 0, RECORD, WENT_OUT, RECORD, WENT_OUT, NOTHING);
         b.run(5);
         b.cut(true);
         checks.same("in this order", Checks.given(b, 3), "0@0=13+ 0@0=23+");
@@ -198,12 +192,12 @@ public final class StepsTest {
         b.rescale(1, 2);
         b.event(0, 0, 1, 0, 5);
         b.rule(1, 9);
-        steps("an event", b, 0, 0, EVENT, WENT_OUT);
-        steps("each hand takes rules", b, 1, 0, RULES, RECORD);
+        checks.steps("an event", b, 0, 0, EVENT, WENT_OUT);
+        checks.steps("each hand takes rules", b, 1, 0, RULES, RECORD);
         checks.same("by the new rule", b.outRow(1, 0), 0);
         b.rule(1, 1);
         b.rule(1, 2);
-        steps("all that it has not taken", b, 1, 1, RULES, MARK);
+        checks.steps("all that it has not taken", b, 1, 1, RULES, MARK);
     }
 
     private static void marksOfTwoPartitions() {
@@ -234,23 +228,23 @@ public final class StepsTest {
         b.run(10);
         checks.same("not yet at rest", b.mark(1, 0), -1);
         b.tick(1);
-        steps("one rests", b, 0, 1, RESTED, WENT_OUT);
-        steps("the mark of the other one", b, 1, 0, REST, WENT_OUT);
+        checks.steps("one rests", b, 0, 1, RESTED, WENT_OUT);
+        checks.steps("the mark of the other one", b, 1, 0, REST, WENT_OUT);
         checks.same("it is not held up by one at rest", b.mark(1, 0), 9);
         checks.no("the sink does not rest", b.rests(1, 0));
-        steps("the other one rests", b, 0, 0, RESTED, WENT_OUT);
-        steps("it rests", b, 1, 0, REST);
+        checks.steps("the other one rests", b, 0, 0, RESTED, WENT_OUT);
+        checks.steps("it rests", b, 1, 0, REST);
         checks.yes("the sink rests", b.rests(1, 0));
         checks.same("it gives out a rest", b.outRow(1, 0), 1);
         checks.same("its mark stays", b.mark(1, 0), 9);
         b.step(1, 0);
         b.event(0, 1, 3, 0, 0);
-        steps("an event ends the rest", b, 0, 1, EVENT, WENT_OUT);
-        steps("a record ends the rest, the mark is given out again", b, 1, 0, RECORD);
+        checks.steps("an event ends the rest", b, 0, 1, EVENT, WENT_OUT);
+        checks.steps("a record ends the rest, the mark is given out again", b, 1, 0, RECORD);
         checks.no("it does not rest any more", b.rests(1, 0));
         checks.same("its mark is given out again", b.outRow(1, 0), 1);
         checks.same("its mark stays greater", b.mark(1, 0), 9);
-        steps("no more marks", b, 1, 0, WENT_OUT, MARK, NOTHING);
+        checks.steps("no more marks", b, 1, 0, WENT_OUT, MARK, NOTHING);
     }
 
     private static void marksGivenAgain() {
@@ -261,23 +255,23 @@ public final class StepsTest {
         b.run(10);
         checks.yes("it rests", b.rests(1, 0));
         b.event(0, 0, 4, 0, 0);
-        steps("no new mark", b, 0, 0, EVENT);
+        checks.steps("no new mark", b, 0, 0, EVENT);
         checks.same("record and mark so far", b.outRow(0, 0), 2);
         b.step(0, 0);
-        steps("a record ends the rest", b, 1, 0, RECORD);
+        checks.steps("a record ends the rest", b, 1, 0, RECORD);
         checks.same("the mark is given out again", b.outRow(1, 0), 1);
-        steps("the mark is not new", b, 1, 0, WENT_OUT, MARK, NOTHING);
+        checks.steps("the mark is not new", b, 1, 0, WENT_OUT, MARK, NOTHING);
         b.tick(10);
         b.run(10);
         b.event(0, 0, 12, 0, 0);
-        steps("a new mark", b, 0, 0, EVENT);
+        checks.steps("a new mark", b, 0, 0, EVENT);
         checks.same("record and new mark", b.outRow(0, 0), 2);
         checks.same("the new mark", b.mark(0, 0), 11);
         b.run(10);
         b.tick(10);
         b.run(10);
         b.end(0, 0);
-        steps("the end", b, 0, 0, EVENT);
+        checks.steps("the end", b, 0, 0, EVENT);
         checks.no("the end ends the rest", b.rests(0, 0));
         checks.same("the mark of the end", b.outRow(0, 0), 1);
         b.run(10);
