@@ -68,6 +68,7 @@ public final class EdgesTest {
         joinOfOneTime();
         joinForgets();
         tableWaits();
+        tableWithoutWaiting();
         patternRowsByKeys();
         patternBetweenBounds();
         nothingWaitsBehindRescale();
@@ -636,6 +637,23 @@ public final class EdgesTest {
         gets("now the mark is its time", b, 3, "0@6=4+");
     }
 
+    /** 'then it is joined with the record of the second input': none that waits, none that is given out */
+    private static void tableWithoutWaiting() {
+        Barrierbrook b = new Barrierbrook();
+        b.source(1, 0, 100);
+        b.source(1, 0, 100);
+        b.table(0, 1);
+        b.sink(2);
+        tell(b, 1, 0, 0, 1);
+        tell(b, 1, 5, 0, 1);
+        tell(b, 0, 9, 0, 1);
+        checks.same("the mark", b.mark(2, 0), 4);
+        gets("one waits, none is given out", b, 3, "");
+        b.end(0, 0);
+        b.end(1, 0);
+        gets("just that one is", b, 3, "0@9=4+");
+    }
+
     /** 'For each key it has a row of times. ... the row is empty then.' */
     private static void patternRowsByKeys() {
         Barrierbrook b = new Barrierbrook();
@@ -852,16 +870,20 @@ public final class EdgesTest {
         checks.steps("one item", c, 0, 0, EVENT, WENT_OUT);
         c.rule(1, 0);
         checks.no("a rule could be taken", c.isStuck());
-        for (int p = 0; p < 2; p++) isStuckWithAHeldChannel(p, 1 - p);
+        for (int p = 0; p < 2; p++) {
+            isStuckWithAHeldChannel(p, 1 - p, 0);
+            isStuckWithAHeldChannel(p, 1 - p, 1);
+        }
     }
 
-    private static void isStuckWithAHeldChannel(int held, int other) {
+    private static void isStuckWithAHeldChannel(int held, int other, int hand) {
         Barrierbrook b = plain(2);
-        b.event(0, held, 0, 0, 0);
+        b.rescale(1, 2);
+        b.event(0, held, 0, 8 * hand, 0);
         b.cut(false);
         checks.steps("a barrier, a record behind it", b, 0, held, JOINED, WENT_OUT, EVENT, WENT_OUT);
-        checks.steps("the channel is held", b, 1, 0, BARRIER, NOTHING);
-        checks.same("the record waits", b.waiting(1, 0), 1);
+        for (int h = 0; h < 2; h++) checks.steps("the channel is held", b, 1, h, BARRIER, NOTHING);
+        checks.same("the record waits", b.waiting(1, hand), 1);
         checks.no("the other partition could join", b.isStuck());
         checks.steps("it joins", b, 0, other, JOINED);
         checks.no("its barrier could go out", b.isStuck());
