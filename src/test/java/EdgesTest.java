@@ -41,6 +41,8 @@ public final class EdgesTest {
     private static void marks() {
         delay();
         recordEndsTheRest();
+        dueAheadOfTheMark();
+        recordAheadOfTheMark();
     }
 
     private static void windows() {
@@ -53,6 +55,9 @@ public final class EdgesTest {
         bunchOfOne();
         slideClosed();
         countOfZeroWithTheSumThatWasTold();
+        countBelowNothing();
+        toldAtTheBound();
+        earlyBehindTheMark();
     }
 
     private static void wholes() {
@@ -71,6 +76,8 @@ public final class EdgesTest {
         tableWithoutWaiting();
         patternRowsByKeys();
         patternBetweenBounds();
+        tablePassesOverTheSign();
+        patternPassesOverTheSign();
         nothingWaitsBehindRescale();
     }
 
@@ -355,6 +362,62 @@ public final class EdgesTest {
         checks.same("and is no greater", b.mark(1, 0), 9);
     }
 
+    /** 'what is due by it is done, and it is given out as a mark behind all that' */
+    private static void dueAheadOfTheMark() {
+        Barrierbrook b = new Barrierbrook();
+        b.source(1, 0, 100);
+        b.source(1, 0, 100);
+        b.window(0, Barrierbrook.TUMBLE, 10, 0, false, 100, 0);
+        b.table(0, 1);
+        b.pattern(0, 0, 5, 1, 100);
+        b.sink(2);
+        b.sink(3);
+        b.sink(4);
+        tell(b, 1, 0, 0, 1);
+        tell(b, 0, 8, 0, 4);
+        tell(b, 0, 9, 0, 5);
+        b.end(1, 0);
+        b.run(9);
+        b.event(0, 0, 20, 9, 0);
+        checks.steps("a record and a mark", b, 0, 0, EVENT, WENT_OUT);
+        for (int o = 2; o <= 4; o++) {
+            checks.steps("by the mark", b, o, 0, RECORD, MARK);
+            checks.same("what is due and the mark", b.outRow(o, 0), 2);
+            checks.steps("they go out", b, o, 0, WENT_OUT);
+            checks.steps("what is due, then the mark", b, o + 3, 0, RECORD, MARK);
+            checks.same("the mark", b.mark(o + 3, 0), 19);
+        }
+        b.cut(true);
+        checks.same("of the WINDOW", Checks.given(b, 5), "0@9=9+");
+        checks.same("of the TABLE", Checks.given(b, 6), "0@8=13+ 0@9=16+");
+        checks.same("of the PATTERN", Checks.given(b, 7), "0@9=5+");
+    }
+
+    /** 'What a record brings is done ahead of all this.' */
+    private static void recordAheadOfTheMark() {
+        Barrierbrook b = new Barrierbrook();
+        b.source(2, 0, 10);
+        b.window(0, Barrierbrook.TUMBLE, 10, 0, false, 0, 0);
+        b.sink(1);
+        tell(b, 0, 10, 1, 7);
+        checks.same("partition 1 holds the mark back", b.mark(1, 0), -1);
+        b.tick(10);
+        checks.steps("partition 0 rests", b, 0, 0, RESTED, WENT_OUT);
+        checks.steps("the window hears of it", b, 1, 0, REST, NOTHING);
+        checks.steps("partition 1 rests", b, 0, 1, RESTED, WENT_OUT);
+        checks.steps("the window rests", b, 1, 0, REST, WENT_OUT);
+        checks.steps("and so the sink", b, 2, 0, REST, WENT_OUT);
+        b.event(0, 0, 3, 0, 5);
+        checks.steps("partition 0 wakes up", b, 0, 0, EVENT, WENT_OUT);
+        checks.steps("a record by which the mark becomes greater", b, 1, 0, RECORD);
+        checks.same("it is the mark of partition 0 alone", b.mark(1, 0), 9);
+        checks.same("the record was not too late", b.lost(1), 0);
+        checks.steps("what it brings goes ahead of the mark", b, 1, 0, WENT_OUT);
+        checks.steps("both come, and the record wakes up the sink", b, 2, 0, RECORD, WENT_OUT, MARK, WENT_OUT, NOTHING);
+        checks.steps("the mark again is no greater", b, 1, 0, MARK, NOTHING);
+        gets("its span is told", b, 2, "0@9=5+");
+    }
+
     /** 'these become one span, from the first beginning to the last end' */
     private static void sessionFromTheFirstBeginning() {
         Barrierbrook b = windowed(Barrierbrook.SESSION, 5, 0, true, 100, 1);
@@ -443,6 +506,67 @@ public final class EdgesTest {
         gets("59 of 60", c, 2, "");
         tell(c, 0, 3, 0, 1);
         gets("60 of 60", c, 2, "0@3=60+");
+    }
+
+    /** 'A span whose count is 0 tells nothing', but one whose count is below 0 does. */
+    private static void countBelowNothing() {
+        Barrierbrook b = new Barrierbrook();
+        b.source(1, 0, 100);
+        b.sift(0, 5);
+        b.window(1, Barrierbrook.TUMBLE, 10, 0, false, 100, 0);
+        b.window(1, Barrierbrook.SESSION, 10, 0, true, 100, 0);
+        b.sink(2);
+        b.sink(3);
+        tell(b, 0, 3, 0, 4);
+        b.rule(1, 0);
+        b.run(1);
+        b.correct(0, 0, 0, -1);
+        b.run(20);
+        tell(b, 0, 50, 9, 0);
+        gets("the sign -1 alone came through: a sum", b, 4, "0@9=-4+");
+        checks.same("and a count", Checks.given(b, 5), "0@12=-1+");
+        tell(b, 0, 3, 0, 6);
+        gets("a count of 0 takes back", b, 4, "0@9=-4-");
+        checks.same("both", Checks.given(b, 5), "0@12=-1+ 0@12=-1-");
+        tell(b, 0, 3, 0, 7);
+        gets("a count of 1", b, 4, "0@9=9+");
+    }
+
+    /** 'that value' is the value of the record that it told, within the bounds. */
+    private static void toldAtTheBound() {
+        for (int side = -1; side <= 1; side += 2) {
+            Barrierbrook b = new Barrierbrook();
+            b.source(1, 0, 100);
+            for (int i = 0; i < 3; i++) b.change(i, 9, 0);
+            b.window(3, Barrierbrook.TUMBLE, 10, 0, false, 100, 2);
+            b.sink(4);
+            String told = "0@9=" + side * 1000000;
+            tell(b, 0, 1, 0, side * 9999);
+            tell(b, 0, 2, 0, side * 9999);
+            gets("a sum of twice the bound", b, 5, told + "+");
+            tell(b, 0, 3, 0, side * 9999);
+            gets("one record since it told", b, 5, "");
+            tell(b, 0, 30, 9, 0);
+            gets("when it is over it would tell just that", b, 5, "");
+            tell(b, 0, 4, 0, -side * 9999);
+            gets("a late record lets it take back, and tell", b, 5, told + "- " + told + "+");
+            tell(b, 0, 4, 0, -side * 9999);
+            tell(b, 0, 4, 0, -side * 9999);
+            gets("down to nothing", b, 5, told + "- " + told + "+ " + told + "- 0@9=0+");
+        }
+    }
+
+    /** 'if it is over, or if early answers are wanted and at least as many records came' */
+    private static void earlyBehindTheMark() {
+        Barrierbrook b = windowed(Barrierbrook.TUMBLE, 10, 0, true, 100, 100);
+        tell(b, 0, 1, 0, 5);
+        tell(b, 0, 30, 9, 0);
+        gets("it is over", b, 2, "0@9=1+");
+        tell(b, 0, 2, 0, 5);
+        gets("each record behind that lets it tell", b, 2, "0@9=1- 0@9=2+");
+        b.correct(0, 0, 0, 6);
+        b.run(20);
+        gets("each part of a correction, too", b, 2, "0@9=2- 0@9=1+ 0@9=1- 0@9=2+");
     }
 
     /** 'A record is too late for a span that is closed' and 'It is lost, if it is added to none.' */
@@ -693,6 +817,53 @@ public final class EdgesTest {
         tell(c, 0, 2001, 0, 9);
         tell(c, 0, 2002, 0, 0);
         gets("not more than a reach of 1000 ahead", c, 2, "0@2001=9+");
+    }
+
+    /** 'with the record of the second input with the same key, with a sign of 1' */
+    private static void tablePassesOverTheSign() {
+        Barrierbrook b = new Barrierbrook();
+        b.source(1, 0, 100);
+        b.source(1, 0, 100);
+        b.table(0, 1);
+        b.sink(2);
+        tell(b, 1, 5, 0, 1);
+        tell(b, 1, 5, 0, 2);
+        tell(b, 0, 20, 9, 0);
+        tell(b, 1, 20, 9, 0);
+        b.correct(1, 0, 0, 7);
+        checks.steps("the sign -1", b, 1, 0, EVENT, WENT_OUT);
+        checks.steps("is taken", b, 2, 0, RECORD);
+        b.event(0, 0, 6, 0, 10);
+        checks.steps("a record of the first input", b, 0, 0, EVENT, WENT_OUT);
+        checks.steps("is joined at once", b, 2, 0, RECORD);
+        gets("with the last one of sign 1", b, 3, "0@6=32+");
+        tell(b, 0, 6, 0, 10);
+        gets("and then with the new value", b, 3, "0@6=37+");
+        b.correct(0, 0, 1, 20);
+        b.run(20);
+        gets("signs of the first input are given out", b, 3, "0@6=37- 0@6=67+");
+    }
+
+    /** 'those with the sign -1 are nothing to it' */
+    private static void patternPassesOverTheSign() {
+        for (int ahead : new int[] {0, 1}) {
+            Barrierbrook b = new Barrierbrook();
+            b.source(1, 0, 100);
+            b.pattern(0, 0, 9, 2, 100);
+            b.sink(1);
+            if (ahead == 1) tell(b, 0, 50, 15, -1);
+            tell(b, 0, 3, 0, 5);
+            b.correct(0, 0, ahead, -1);
+            b.run(20);
+            tell(b, 0, 4, 0, 9);
+            if (ahead == 0) tell(b, 0, 50, 15, -1);
+            gets("it puts no time into the row", b, 2, "");
+            b.correct(0, 0, ahead + 3, -1);
+            b.run(20);
+            gets("it is not told", b, 2, "");
+            tell(b, 0, 5, 0, 9);
+            gets("the row has its two times", b, 2, "0@5=9+");
+        }
     }
 
     /** 'These hands ... look at the first channel next', and nothing else comes into being by that. */
