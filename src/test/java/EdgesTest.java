@@ -36,6 +36,7 @@ public final class EdgesTest {
         twentiethRule();
         patience();
         patienceWithCutsAndEnds();
+        barrierAheadOfARest();
     }
 
     private static void marks() {
@@ -58,6 +59,7 @@ public final class EdgesTest {
         countBelowNothing();
         toldAtTheBound();
         earlyBehindTheMark();
+        dueOneByOne();
     }
 
     private static void wholes() {
@@ -90,6 +92,7 @@ public final class EdgesTest {
         marksOfTheSecondInput();
         behindTheBarriersAllIsEmpty();
         ticksBehindRescale();
+        followersByTheSecondInput();
     }
 
     /** 0 source of so many partitions with no delay and a patience of 10, 1 sink. */
@@ -321,6 +324,21 @@ public final class EdgesTest {
         c.tick(10);
         checks.steps("no rest behind the end", c, 0, 0, NOTHING);
         checks.no("it does not rest", c.rests(0, 0));
+    }
+
+    /** 'When a hand steps, the first of these is done that is possible': a barrier, an event, a rest. */
+    private static void barrierAheadOfARest() {
+        Barrierbrook b = plain(1);
+        b.tick(10);
+        b.cut(false);
+        checks.steps("a barrier, then a rest", b, 0, 0, JOINED, WENT_OUT, RESTED, WENT_OUT, NOTHING);
+        Barrierbrook c = plain(1);
+        c.tick(10);
+        c.cut(false);
+        c.event(0, 0, 0, 0, 0);
+        checks.steps("a barrier, then an event, no rest", c, 0, 0, JOINED, WENT_OUT, EVENT, WENT_OUT, NOTHING);
+        c.tick(10);
+        checks.steps("then a rest", c, 0, 0, RESTED, WENT_OUT, NOTHING);
     }
 
     /** 'less the delay of the source, less 1, is a new mark, ... if it is greater than its mark so far' */
@@ -567,6 +585,17 @@ public final class EdgesTest {
         b.correct(0, 0, 0, 6);
         b.run(20);
         gets("each part of a correction, too", b, 2, "0@9=2- 0@9=1+ 0@9=1- 0@9=2+");
+    }
+
+    /** 'by rising ends, of the same end by rising keys': each takes back, and tells, ahead of the next one. */
+    private static void dueOneByOne() {
+        Barrierbrook b = windowed(Barrierbrook.SLIDE, 10, 5, false, 0, 2);
+        for (int key = 1; key >= 0; key--) {
+            for (int i = 0; i < 3; i++) tell(b, 0, 5, key, 1 + key);
+        }
+        gets("two of three", b, 2, "1@9=4+ 1@14=4+ 0@9=2+ 0@14=2+");
+        b.end(0, 0);
+        gets("what differs", b, 2, "0@9=2- 0@9=3+ 1@9=4- 1@9=6+ 0@14=2- 0@14=3+ 1@14=4- 1@14=6+");
     }
 
     /** 'A record is too late for a span that is closed' and 'It is lost, if it is added to none.' */
@@ -1024,6 +1053,36 @@ public final class EdgesTest {
         b.tick(1);
         checks.steps("10 ticks behind the crash", b, 0, 0, RESTED);
         checks.same("ticks stay", b.tick(1), 20);
+    }
+
+    /** 'these hands, and those of its followers, look at the first channel next': by a second input, too. */
+    private static void followersByTheSecondInput() {
+        for (int input = 0; input <= 2; input++) {
+            Barrierbrook b = new Barrierbrook();
+            b.source(1, 0, 100);
+            b.sift(0, 0);
+            b.sift(0, 9999);
+            b.join(1, 2, 0);
+            b.sink(3);
+            b.cut(false);
+            checks.steps("the barrier", b, 0, 0, JOINED, WENT_OUT);
+            for (int o = 2; o >= 1; o--) {
+                checks.steps("by both ways", b, o, 0, BARRIER, WENT_OUT);
+                checks.steps("to the JOIN", b, 3, 0, BARRIER);
+            }
+            checks.steps("to the sink", b, 3, 0, WENT_OUT);
+            checks.steps("the cut is done", b, 4, 0, BARRIER, WENT_OUT);
+            checks.same("done", b.joined(), -1);
+            if (input == 0) b.crash();
+            else b.rescale(input, 1);
+            b.event(0, 0, 5, 0, 8);
+            checks.steps("a record and a mark", b, 0, 0, EVENT, WENT_OUT);
+            checks.steps("by the first way", b, 1, 0, RECORD, WENT_OUT, MARK, WENT_OUT);
+            checks.steps("by the second way only the mark", b, 2, 0, RECORD, MARK, WENT_OUT);
+            if (input == 0) checks.steps("the second channel first, as kept", b, 3, 0, MARK, RECORD);
+            else checks.steps("the first channel first", b, 3, 0, RECORD, MARK);
+            checks.steps("then the mark of the first one", b, 3, 0, MARK, WENT_OUT, NOTHING);
+        }
     }
 
     /** 'Returns whether no hand would do anything by a step, though some out row or channel is not empty.' */
